@@ -729,11 +729,7 @@ public final class CuratorAquarum {
             int chamber = castle.chamberInTurn(turn);
             int level = greatestLevel(castle, chamber, left);
             castle.setLevel(chamber, level);
-            int flow = flowOf(castle, chamber, level);
-            int theft = theftOf(castle, chamber, level);
-            accounts.used += flow - theft;
-            accounts.taken += theft;
-            left -= flow;
+            left -= flowOf(castle, chamber, level);
         }
         castle.waste = left;
     }
@@ -761,17 +757,6 @@ public final class CuratorAquarum {
         return sum;
     }
 
-    private int theftOf(Castle castle, int chamber, int level) {
-        int sum = 0;
-        for (int i = 0; i < nozzles.size(); i++) {
-            Nozzle nozzle = nozzles.get(i);
-            if (nozzle.isAt(castle, chamber)) {
-                sum += nozzle.theftAt(level);
-            }
-        }
-        return sum;
-    }
-
     private void addUpAccounts() {
         for (int i = 0; i < nodes.size(); i++) {
             Node node = nodes.get(i);
@@ -784,6 +769,13 @@ public final class CuratorAquarum {
             Stretch stretch = stretches.get(i);
             accounts.leaked += stretch.leaked;
             accounts.taken += stretch.lost();
+        }
+        for (int i = 0; i < nozzles.size(); i++) {
+            Nozzle nozzle = nozzles.get(i);
+            int level = nozzle.levelLastMonth();
+            int theft = nozzle.theftAt(level);
+            accounts.used += nozzle.flowAt(level) - theft;
+            accounts.taken += theft;
         }
     }
 
@@ -823,7 +815,7 @@ public final class CuratorAquarum {
 
     private boolean dealOut(Nozzle nozzle) {
         int place = 0;
-        while (place < waiting.size()) {
+        for (int left = waiting.size(); left > 0 && place < waiting.size(); left--) {
             Waiter waiter = waiting.get(place);
             if (nozzleGranted(waiter.person, waiter.house) >= 0) {
                 waiting.remove(place);

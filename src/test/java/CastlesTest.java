@@ -112,6 +112,25 @@ public final class CastlesTest {
         }
         x.giveBack(0, 0);
         checks.refused(26, "given back", x, Checks.UNSUPPORTED, () -> x.close(2, false));
+        endedGrantsGiveNothing();
+    }
+
+    private static void endedGrantsGiveNothing() {
+        CuratorAquarum x = city(1000);
+        x.month();
+        checks.due(31, "granted", 200, x.given(2));
+        x.giveBack(0, 0);
+        checks.due(34, "given back", 0, x.given(2));
+        x.grant(0, 0, 2);
+        checks.due(31, "granted again", 200, x.given(2));
+        x.sell(0);
+        checks.due(36, "sold", 0, x.given(2));
+        x.grant(0, 0, 2);
+        x.die(0);
+        checks.due(35, "died", 0, x.given(2));
+        x.enlist(1, 1, 5);
+        x.deal();
+        checks.due(38, "dealt", 200, x.given(2));
     }
 
     private static void widening() {

@@ -34,8 +34,16 @@ final class Checks {
         try {
             return call.answer();
         } catch (RuntimeException e) {
-            return e.getClass().getName();
+            return e.getClass().getName() + (isOwn(e) ? "" : ", thrown by the machine");
         }
+    }
+
+    /** The library throws exceptions of the same names: only one that the class throws itself counts. */
+    private static boolean isOwn(RuntimeException e) {
+        StackTraceElement[] trace = e.getStackTrace();
+        return trace.length > 0
+                && (trace[0].getClassName().startsWith("CuratorAquarum")
+                || trace[0].getClassName().startsWith("PlainCity"));
     }
 
     void end() {

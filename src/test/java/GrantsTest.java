@@ -95,14 +95,14 @@ public final class GrantsTest {
     private static void die() {
         CuratorAquarum x = city();
         x.grant(7, 1, 3);
-        x.grant(7, 2, 1);
+        x.grant(7, 2, 0);
         x.grant(8, 2, 2);
         x.enlist(7, 3, 5);
         x.enlist(8, 3, 5);
         x.enlist(7, 4, 5);
         checks.due(35, "how many end", 2, x.die(7));
         checks.refused(35, "again", x, Checks.UNSUPPORTED, () -> x.die(7));
-        checks.refused(35, "no holder then", x, Checks.NOTHING, () -> x.holder(1));
+        checks.refused(35, "no holder then", x, Checks.NOTHING, () -> x.holder(0));
         checks.refused(35, "no holder then", x, Checks.NOTHING, () -> x.holder(3));
         checks.refused(35, "shut then", x, Checks.UNSUPPORTED, () -> x.close(3, false));
         checks.due(35, "another's stays", 8, x.holder(2));
@@ -120,12 +120,12 @@ public final class GrantsTest {
         CuratorAquarum x = city();
         checks.due(36, "none", 0, x.sell(0));
         x.grant(7, 1, 3);
-        x.grant(8, 1, 1);
+        x.grant(8, 1, 0);
         x.grant(8, 29, 2);
         x.enlist(9, 1, 40);
         checks.due(36, "how many end", 2, x.sell(1));
         checks.due(36, "again", 0, x.sell(1));
-        checks.refused(36, "no holder then", x, Checks.NOTHING, () -> x.holder(1));
+        checks.refused(36, "no holder then", x, Checks.NOTHING, () -> x.holder(0));
         checks.refused(36, "shut then", x, Checks.UNSUPPORTED, () -> x.close(3, false));
         checks.due(36, "another house stays", 8, x.holder(2));
         checks.due(36, "who waits for it stays", 2, x.enlist(7, 1, 5));

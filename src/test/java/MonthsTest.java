@@ -5,6 +5,7 @@ public final class MonthsTest {
     public static void main(String[] args) {
         gives();
         mixes();
+        meansOfOneMonth();
         overflows();
         orderOfStretches();
         orderOfNodes();
@@ -87,6 +88,22 @@ public final class MonthsTest {
         checks.due(17, "a dry spring", 0, y.cloud(0));
     }
 
+    /** The means are of one month alone, also of the least water. */
+    private static void meansOfOneMonth() {
+        CuratorAquarum x = new CuratorAquarum();
+        x.spring(500, 1, 0, 7);
+        x.node('t', 400);
+        x.siphon(0, 1, 1, 1, 0, 1);
+        for (int rain = 3; rain < 99; rain += 19) {
+            x.rain(rain);
+            x.month();
+            checks.due(16, "one drop at the spring", 7, x.hardness(0));
+            checks.due(16, "one drop in the tank", 7, x.hardness(1));
+            checks.due(17, "one drop at the spring", rain, x.cloud(0));
+            checks.due(17, "one drop in the tank", rain / 2, x.cloud(1));
+        }
+    }
+
     private static void overflows() {
         CuratorAquarum x = new CuratorAquarum();
         x.spring(500, 5000, 0, 9);
@@ -163,13 +180,16 @@ public final class MonthsTest {
         x.month();
         checks.due(21, "then it is passed by", 200, x.gauge(1, false));
         checks.due(18, "nothing left", 0, x.overflow(0));
-        CuratorAquarum y = new CuratorAquarum();
-        y.spring(500, 30, 0, 0);
-        y.node('t', 400);
-        y.siphon(0, 1, 1, 2, 99, 1);
-        y.month();
-        checks.due(18, "less than its capacity", 30, y.overflow(0));
-        checks.due(48, "account of it", 30, y.account('o'));
+        for (int flow = 0; flow <= 30; flow += flow == 0 ? 1 : 29) {
+            CuratorAquarum y = new CuratorAquarum();
+            y.spring(500, flow, 0, 0);
+            y.node('t', 400);
+            y.siphon(0, 1, 1, 2, 99, 1);
+            y.month();
+            checks.due(13, "it bursts by " + flow, flow > 0, y.isBroken(0));
+            checks.due(18, "less than its capacity", flow, y.overflow(0));
+            checks.due(48, "account of it", flow, y.account('o'));
+        }
     }
 
     private static void leaks() {
@@ -265,11 +285,21 @@ public final class MonthsTest {
         x.hole(2, 3);
         x.hole(3, 4);
         checks.refused(23, "before a month", x, Checks.NOTHING, x::suspect);
+        x.hole(0, 1);
+        x.shut(1, true);
+        x.shut(2, true);
+        x.shut(3, true);
+        x.month();
+        checks.due(23, "one is enough", 0, x.suspect());
+        x.shut(1, false);
+        x.shut(2, false);
+        x.shut(3, false);
         x.month();
         checks.due(23, "of like ones the lowest", 1, x.suspect());
         x.hole(3, 2);
         x.month();
         checks.due(23, "the last", 3, x.suspect());
+        x.cut(0);
         x.cut(1);
         x.cut(2);
         x.cut(3);

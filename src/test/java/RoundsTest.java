@@ -11,6 +11,7 @@ public final class RoundsTest {
         roundsRefused();
         fines();
         scrape();
+        scrapeBegunTens();
         scrapeRefused();
         summer();
         mend();
@@ -183,6 +184,23 @@ public final class RoundsTest {
         checks.due(44, "capacity again", 2000, x.capacity(0));
     }
 
+    /** By a hardness of 1 to 9 a month of 2000 leaves a crust of 1 to 9. */
+    private static void scrapeBegunTens() {
+        for (int crust = 1; crust <= 9; crust++) {
+            CuratorAquarum x = new CuratorAquarum();
+            x.spring(999, 5000, 0, crust);
+            x.node('t', 799);
+            x.channel(0, 1, 2, 20);
+            x.month();
+            checks.due(7, "one month", crust, x.crust(0));
+            x.month();
+            checks.due(7, "two months", 2 * crust, x.crust(0));
+            checks.due(44, "begun tens of " + 2 * crust, 2 * crust > 10 ? 4 : 2, x.scrape(0, 'f'));
+            x.month();
+            checks.due(44, "begun ten of " + crust, 2, x.scrape(0, 'f'));
+        }
+    }
+
     private static void scrapeRefused() {
         CuratorAquarum x = city();
         checks.refused(44, "no crust", x, Checks.UNSUPPORTED, () -> x.scrape(0, 'f'));
@@ -194,9 +212,6 @@ public final class RoundsTest {
             checks.refused(44, "gang at no stretch", x, Checks.INDEX, () -> x.scrape(2, wrong));
         }
         checks.refused(44, "no stretch", x, Checks.INDEX, () -> x.scrape(-1, 'f'));
-        x.cut(1);
-        x.line(0, 'f', 0);
-        x.purse('f', 0);
         CuratorAquarum y = poor(city());
         y.month();
         checks.due(44, "a poor gang", 1, y.purse('f', 0));

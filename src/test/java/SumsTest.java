@@ -47,6 +47,19 @@ public final class SumsTest {
         checks.due(48, "u of the last month alone", 0, x.account('u'));
         checks.due(48, "t of the last month alone", 0, x.account('t'));
         checks.due(48, "l of the last month alone", 0, x.account('l'));
+        x.shut(1, false);
+        x.close(0, true);
+        x.month();
+        // The channel takes 440 and leaks 8; the nozzle of houses takes the rest at a level of 54.
+        checks.due(48, "u of houses alone", 432, x.account('u'));
+        checks.due(48, "w without any", 0, x.account('w'));
+        checks.due(48, "l", 8, x.account('l'));
+        x.close(1, true);
+        x.month();
+        checks.due(48, "w with all shut", 432, x.account('w'));
+        x.month();
+        checks.due(48, "w of the last month alone", 432, x.account('w'));
+        checks.due(48, "u with all shut", 0, x.account('u'));
         for (char wrong : new char[] {'I', 'x', (char) 0, (char) 65535}) {
             checks.refused(48, "kind", x, Checks.ARGUMENT, () -> x.account(wrong));
         }
@@ -85,6 +98,12 @@ public final class SumsTest {
         checks.due(50, "all", 1.0f, x.heldShare());
         x.die(1);
         checks.due(50, "two of three", 2.0f / 3.0f, x.heldShare());
+        CuratorAquarum y = new CuratorAquarum();
+        y.node('c', 5);
+        y.nozzle(0, 'h', 10, 0);
+        checks.due(50, "the one", 0.0f, y.heldShare());
+        y.grant(0, 0, 0);
+        checks.due(50, "the one", 1.0f, y.heldShare());
     }
 
     private static void meanLength() {
