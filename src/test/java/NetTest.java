@@ -132,6 +132,8 @@ public final class NetTest {
         checks.refused(4, "level", x, Checks.UNSUPPORTED, () -> x.channel(1, 4, 1, 1));
         checks.refused(4, "to itself", x, Checks.UNSUPPORTED, () -> x.channel(1, 1, 1, 1));
         x.node('t', 402);
+        x.node('t', 1);
+        checks.refused(4, "from a castle to a lower tank", x, Checks.UNSUPPORTED, () -> x.channel(2, 6, 1, 1));
         checks.refused(4, "little fall", x, Checks.UNSUPPORTED, () -> x.channel(0, 5, 99, 1));
         checks.due(4, "fall of one", 0, x.channel(0, 5, 98, 1));
         checks.due(4, "its capacity", 10, x.capacity(0));
@@ -173,6 +175,8 @@ public final class NetTest {
         checks.refused(5, "to a spring", x, Checks.UNSUPPORTED, () -> x.siphon(1, 3, 1, 1, 1, 1));
         checks.refused(5, "level", x, Checks.UNSUPPORTED, () -> x.siphon(1, 4, 1, 1, 1, 1));
         checks.refused(5, "upwards", x, Checks.UNSUPPORTED, () -> x.siphon(4, 0, 1, 1, 1, 1));
+        x.node('t', 1);
+        checks.refused(5, "from a castle to a lower tank", x, Checks.UNSUPPORTED, () -> x.siphon(2, 5, 1, 1, 1, 1));
     }
 
     private static void capacities() {
