@@ -1,3 +1,5 @@
+import java.math.BigInteger;
+
 /** A city without anything, and a city at its full counts and behind them. */
 public final class CountsTest {
     private static final Checks checks = new Checks();
@@ -299,5 +301,25 @@ public final class CountsTest {
             int left = x.account('u') + x.account('t') + x.account('l') + x.account('o') + x.account('w');
             checks.due(48, "all that came left", x.account('i'), left);
         }
+        checks.due(49, "the sum wraps around", wrapped(x), x.checksum());
+    }
+
+    /** The sum without any wrap-around, and its last 64 bits behind that. */
+    private static long wrapped(CuratorAquarum x) {
+        BigInteger sum = BigInteger.valueOf(7);
+        for (int i = 0; i < 16; i++) {
+            sum = next(sum, x.water(i));
+        }
+        for (int i = 0; i < 20; i++) {
+            sum = next(next(sum, x.gauge(i, true)), x.crust(i));
+        }
+        for (int i = 0; i < 24; i++) {
+            sum = next(next(sum, x.widen(i, 60)), "bah".charAt(i % 3) == 'h' ? x.holder(i) : -1);
+        }
+        return next(next(sum, x.purse('f', 0) + x.purse('e', 0)), x.seed(1)).longValue();
+    }
+
+    private static BigInteger next(BigInteger sum, int more) {
+        return sum.multiply(BigInteger.valueOf(31)).add(BigInteger.valueOf(more));
     }
 }

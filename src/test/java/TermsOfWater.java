@@ -779,5 +779,10 @@ final class TermsOfWater {
         for (int[] d : byRound) {
             checks.holds("round " + d[0], d[1], x.measure('c', d[0]));
         }
+        for (int quarters = 1; quarters <= 999; quarters++) {
+            CuratorAquarum y = new CuratorAquarum();
+            checks.holds("diameter " + quarters, quarters * quarters / 25, y.measure('d', quarters));
+            checks.holds("round " + quarters, 49 * quarters * quarters / 12100, y.measure('c', quarters));
+        }
     }
 }
