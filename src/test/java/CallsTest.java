@@ -34,7 +34,13 @@ public final class CallsTest {
     private static final TreeSet<String> beyond = new TreeSet<>();
 
     public static void main(String[] args) throws URISyntaxException {
-        read(disassembled());
+        // .ci/run promises to need javac and java alone: a JDK may come without javap.
+        ToolProvider javap = ToolProvider.findFirst("javap").orElse(null);
+        if (javap == null) {
+            System.out.println("this JDK has no javap: not asked");
+            return;
+        }
+        read(disassembled(javap));
         checks.due(1, "calls beyond the library of rule 4", new TreeSet<String>(), beyond);
         checks.due(1, "methods that were read", true, calls.size() > 100);
         int deepest = 0;
@@ -45,7 +51,7 @@ public final class CallsTest {
         checks.end();
     }
 
-    private static String disassembled() throws URISyntaxException {
+    private static String disassembled(ToolProvider javap) throws URISyntaxException {
         File place = Path.of(CuratorAquarum.class.getProtectionDomain().getCodeSource().getLocation().toURI()).toFile();
         List<String> arguments = new ArrayList<>(List.of("-c", "-p", "-s"));
         for (String name : place.list()) {
@@ -54,8 +60,7 @@ public final class CallsTest {
             }
         }
         StringWriter text = new StringWriter();
-        int code = ToolProvider.findFirst("javap").orElseThrow()
-                .run(new PrintWriter(text), new PrintWriter(System.out, true), arguments.toArray(new String[0]));
+        int code = javap.run(new PrintWriter(text), new PrintWriter(System.out, true), arguments.toArray(new String[0]));
         checks.due(1, "exit code of javap", 0, code);
         return text.toString();
     }
